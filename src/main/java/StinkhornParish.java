@@ -1352,7 +1352,11 @@ public final class StinkhornParish {
                 case DRAW: draft.firstDay.seed = isFirst(4) ? number(999) : 0; break;
                 default: refuse(FAULT_PLACE); break;
             }
-            pass(';');
+            if (token == ';') {
+                advance();
+            } else {
+                refuse(FAULT_PLACE);
+            }
         }
 
         private boolean isFirst(int line) {
@@ -1362,14 +1366,6 @@ public final class StinkhornParish {
             }
             toldOnce |= line;
             return true;
-        }
-
-        private void pass(int due) {
-            if (token == due) {
-                advance();
-            } else {
-                refuse(FAULT_PLACE);
-            }
         }
 
         private void personLine() {
@@ -1497,7 +1493,11 @@ public final class StinkhornParish {
             }
             advance();
             joined(RANK_OR, around + 1);
-            pass(')');
+            if (token == ')') {
+                advance();
+            } else {
+                refuse(FAULT_PLACE);
+            }
         }
 
         private static int rankOf(int token) {

@@ -43,6 +43,9 @@ public final class PromiseTests {
         next();
         images();
         about();
+        sixOfThem();
+        likeOnes();
+        theLastMorning();
         Checks.done();
     }
 
@@ -820,5 +823,67 @@ public final class PromiseTests {
         int[] due = {3, 3, 0, 1, (77 * 137 + 71) % 1000, 1, 1, 1, 4, 20, 4, 20, x.about(12)};
         for (int what = 0; what < due.length; what++) Checks.due("about " + what, x.about(what), due[what]);
         for (int what : new int[] {-1, 13, Integer.MAX_VALUE, Integer.MIN_VALUE}) Checks.due("about " + what, x.about(what), -1);
+    }
+
+    private static void sixOfThem() {
+        StringBuilder b = new StringBuilder();
+        for (int i = 0; i < 6; i++) b.append("person ").append((char) ('a' + i)).append(" shame ").append(9 - i).append(" bears ").append(3 + i).append(";");
+        StinkhornParish x = Checks.told(b + "sign shame > 4;");
+        for (int i = 0; i < 6; i++) {
+            Checks.due("shame of " + i, x.person(i, 1), 9 - i);
+            Checks.due("bears of " + i, x.person(i, 2), 3 + i);
+        }
+        Checks.due("f alone is not above 4", x.sign(32), 0);
+        Checks.due("e alone is", x.sign(16), 1);
+        Checks.due("no such world", x.sign(64), -1000000000);
+        // All but one see all others: the one whisper that is left brings the end.
+        StinkhornParish y = Checks.told(six("keeps").replace("knows f b;", ""));
+        Checks.due("no end, or a later one", y.ending() == -1 || y.ending() > 6, true);
+        int[] hint = {5, 1, 6};
+        for (int what = 0; what < 3; what++) Checks.due("hint " + what, y.hint(what), hint[what]);
+        // Once one keeper is shown the sign tells the others nothing more: all have to be shown.
+        Checks.due("all six", Checks.told(six("keeps")).pegs(2, 0), 6);
+        Checks.due("all six", Checks.told(six("keeps")).pegs(5, 1), 63);
+        Checks.due("none", Checks.told(six("keeps")).pegs(6, 1), 0);
+    }
+
+    private static void likeOnes() {
+        StinkhornParish x = Checks.told(THREE);
+        x.peg(2);
+        Checks.due("a measuring leaves what was left", x.measure(), 1);
+        Checks.due("both are unsure", Checks.told(APART).unsure(), 3);
+        StinkhornParish mirrored = Checks.told("person b;person a keeps;knows a b;knows b a;");
+        Checks.due("of b they do not know alike", mirrored.alike(0, 1), 2);
+        Checks.due("the second one", mirrored.call(0), 1);
+        Checks.due("settled", mirrored.settled(), 2);
+        StinkhornParish apart = Checks.told("person b;person a keeps;person c;");
+        Checks.due("wronged by a", apart.wronged(), 5);
+        StinkhornParish pair = Checks.told("person b;person a keeps;");
+        int[] hint = {1, 0, 1};
+        for (int what = 0; what < 3; what++) Checks.due("hint " + what, pair.hint(what), hint[what]);
+        StinkhornParish three = Checks.told("person b;person a keeps;person c;knows a b;knows b c;");
+        int[] meeting = {0, 1, 1};
+        for (int what = 0; what < 3; what++) Checks.due("meeting " + what, three.meeting(what), meeting[what]);
+        StinkhornParish both = Checks.told(APART.replace("person b", "person b keeps"));
+        both.peg(0);
+        both.peg(1);
+        Checks.due("both are common", both.common(), 3);
+        StinkhornParish y = Checks.told(THREE);
+        y.morning();
+        Checks.due("within from now on", y.within(1), 1);
+        y.morning();
+        Checks.due("ended: no peg is needed", y.pegs(0, 0), 0);
+        Checks.due("one part, of world 0, too", Checks.told("person a;person b;knows a b;").parts(0), 1);
+    }
+
+    /** More calls than an object is promised for, but there is no other way to get there. */
+    private static void theLastMorning() {
+        StinkhornParish x = Checks.told(THREE + "fog 100;");
+        int gone = 0;
+        while (gone < 2000 && x.morning() != -1) gone++;
+        Checks.due("mornings", gone, 999);
+        Checks.due("nothing was done", x.about(3), 999);
+        Checks.due("what lies ahead goes on", x.ending(), 2);
+        Checks.due("and on", x.will(2, 0), 3);
     }
 }

@@ -165,6 +165,7 @@ public final class TextTests {
         bad("draw 1;draw 2;", 2, 7);
         bad("sign 1;sign 2;", 2, 7);
         bad("fog 1;fog 200;", 2, 6);
+        bad("fog 1;draw 1;sign 1;fog 2;", 2, 20);
         bad("sign 1;sign !", 2, 7);
     }
 
