@@ -2,6 +2,8 @@
 final class Checks {
     private static int wrong = 0;
     private static int asked = 0;
+    /** Why it is asked: told with each wrong answer. */
+    static String sentence = "";
 
     private Checks() { }
 
@@ -9,7 +11,7 @@ final class Checks {
         asked++;
         if (got != want) {
             wrong++;
-            System.out.println(call + " answered " + got + ", due is " + want);
+            System.out.println((sentence.isEmpty() ? "" : "[" + sentence + "] ") + call + " answered " + got + ", due is " + want);
         }
     }
 
