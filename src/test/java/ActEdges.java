@@ -140,6 +140,8 @@ final class ActEdges {
             Checks.due("untell", x.untell(0), false);
             for (int box = 0; box < 3; box++) Checks.due("back " + box, x.back(box), -1);
         }
+        nothingOfTheOneBefore("");
+        nothingOfTheOneBefore("fog 50;draw 500;sign 5;person z keeps shame 5 bears 5;person y;knows z y;!");
         StinkhornParish owned = Checks.told(Parishes.full(2, 1));
         owned.morning();
         Checks.due("owned", owned.about(2), 1);
@@ -165,6 +167,35 @@ final class ActEdges {
             Checks.due(text, x.fault(0), kinds[i]);
             Checks.due("bytes on the tape", x.about(9), text.length());
         }
+    }
+
+    /** What one text tells, and another one with a fault, is not told by a later one that is silent of it. */
+    private static void nothingOfTheOneBefore(String faulty) {
+        StinkhornParish x = Checks.told(Parishes.full(6, 63, " shame 9 bears 9") + "sign (5);fog 50;draw 500;");
+        x.fits(0);
+        if (!faulty.isEmpty()) {
+            Checks.tape(x, faulty);
+            Checks.due("a fault", x.parish(), -1);
+            x.end(0);
+        }
+        Checks.tape(x, "person a;person b;");
+        Checks.due("parish", x.parish(), 2);
+        int[] anew = {2, 0, 0, 0, 0, 0, 0, 0, 0, 0, 0, 0, 0};
+        for (int what = 0; what < anew.length; what++) Checks.due("about " + what, x.about(what), anew[what]);
+        for (int p = 0; p < 2; p++) {
+            for (int what = 0; what < 5; what++) Checks.due("person " + p + " " + what, x.person(p, what), 0);
+        }
+        for (int w = 0; w < 4; w++) Checks.due("sign " + w, x.sign(w), Integer.bitCount(w));
+        Checks.due("no such world", x.sign(4), -1000000000);
+        Checks.due("no such one", x.person(2, 0), -1);
+        Checks.due("odds", x.odds(1, 1), 1);
+        Checks.due("name of the one before", feedAndRead(x, "person a;knows a b;"), 5);
+    }
+
+    private static int feedAndRead(StinkhornParish x, String text) {
+        Checks.tape(x, text);
+        x.parish();
+        return x.fault(0);
     }
 
     private static void fault() {

@@ -91,8 +91,19 @@ final class AheadEdges {
         part.morning();
         Checks.due("one of two has", part.about(2), 1);
         Checks.due("the other one then", part.ending(), 3);
+        StinkhornParish far = Checks.told(Parishes.LONG);
+        for (int gone = 0; gone <= 33; gone++) {
+            Checks.due("end behind " + gone, far.ending(), in(32 - gone));
+            far.morning();
+        }
         Doc.says(22, "NONE if not in these.");
+        Checks.due("behind 32", Checks.told(Parishes.LONG).ending(), -1);
         for (int n = 2; n <= 6; n++) Checks.due("never", Checks.told(Parishes.apart(n, 1)).ending(), -1);
+    }
+
+    /** So many mornings from now on, as they are told. */
+    private static int in(int mornings) {
+        return mornings > 30 ? -1 : Math.max(0, mornings);
     }
 
     private static void first() {
@@ -110,7 +121,13 @@ final class AheadEdges {
         StinkhornParish part = Checks.told("person a keeps bears 9;person b keeps bears 3;sign many>1;");
         Checks.due("the one", part.first(), 4);
         Checks.due("both", part.ending(), 10);
+        StinkhornParish far = Checks.told(Parishes.LONG);
+        for (int gone = 0; gone <= 33; gone++) {
+            Checks.due("first behind " + gone, far.first(), in(31 - gone));
+            far.morning();
+        }
         Doc.says(23, "NONE if not in these.");
+        Checks.due("behind 31", Checks.told(Parishes.LONG).first(), -1);
         Checks.due("nobody", new StinkhornParish().first(), -1);
         Checks.due("no keepers", Checks.told(Parishes.full(3, 0)).first(), -1);
         Checks.due("never", Checks.told(Parishes.apart(3, 1)).first(), -1);
@@ -123,6 +140,12 @@ final class AheadEdges {
             for (int n = 1; n <= 30; n++) Checks.due("will " + n, x.will(n, 0), n < k ? 0 : Parishes.all(k));
             x.morning();
             for (int n = 1; n <= 30; n++) Checks.due("from now on " + n, x.will(n, 0), n < k - 1 ? 0 : Parishes.all(k));
+        }
+        StinkhornParish far = Checks.told(Parishes.LONG);
+        for (int gone = 0; gone <= 32; gone++) {
+            Checks.due("on the thirtieth behind " + gone, far.will(30, 0), gone == 0 ? 0 : gone == 1 ? 10 : 14);
+            Checks.due("on the one before it", far.will(29, 0), gone < 2 ? 0 : gone == 2 ? 10 : 14);
+            far.morning();
         }
         Doc.says(24, "fog as the SEED tells (what 1), none (0)");
         // The rests by 100 that follow draw 0: 71, 98, 97, 60, 91, 38, 77, 20.
@@ -161,6 +184,12 @@ final class AheadEdges {
         for (int n = 0; n <= 30; n++) Checks.due("behind " + n, x.worldsAt(n), due[Math.min(n, 6)]);
         Checks.due("all", Checks.told(Parishes.full(6, 63) + "sign 1;").worldsAt(30), 64);
         Checks.due("of nobody", new StinkhornParish().worldsAt(30), 1);
+        StinkhornParish far = Checks.told(Parishes.LONG);
+        Checks.due("behind 29", far.worldsAt(29), 12);
+        Checks.due("behind 30", far.worldsAt(30), 10);
+        far.morning();
+        Checks.due("behind 1 and 29", far.worldsAt(29), 10);
+        Checks.due("behind 1 and 30", far.worldsAt(30), 1);
         Doc.says(25, "NONE for another n.");
         for (int n : new int[] {-1, 31, 32, MIN, MAX}) {
             Checks.due("behind " + n, x.worldsAt(n), -1);
@@ -264,6 +293,7 @@ final class AheadEdges {
         StinkhornParish none = Checks.told("person a keeps;person b;person c;sign many=1;");
         Checks.due("now", none.ending(), -1);
         three("none now, none then", none, false, -1, -1, -1);
+        three("none in 30 now", Checks.told(Parishes.LONG), false, 1, 5, 14);
         Doc.says(28, "NONE if there is none, or for another what.");
         for (int n = 0; n <= 6; n++) {
             three("nothing to whisper", Checks.told(Parishes.full(n, Parishes.all(n))), false, -1, -1, -1);
@@ -291,6 +321,9 @@ final class AheadEdges {
         Checks.due("ended", ended.pin(0), 0);
         Checks.due("ended", ended.pin(1), 0);
         Checks.due("as late as he bears", Checks.told("person a keeps bears 9;sign 1;").pin(1), 10);
+        StinkhornParish part = Checks.told("person a;person b keeps;person c;sign 1;");
+        Checks.due("it ends by one of them alone", part.pin(0), 1);
+        Checks.due("it ends by one of them alone", part.pin(1), 1);
         Doc.says(29, "NONE if it ends by none, or for another what.");
         for (int what = 0; what < 2; what++) {
             Checks.due("by none", Checks.told(Parishes.apart(3, 3) + "sign 1;").pin(what), -1);
@@ -435,6 +468,13 @@ final class AheadEdges {
         owned.morning();
         Checks.due("a has owned: without b it is ended", owned.fate(1), 0);
         Checks.due("with b it never is", owned.fate(3), -1);
+        StinkhornParish far = Checks.told(Parishes.LONG);
+        for (int gone = 0; gone <= 33; gone++) {
+            Checks.due("the true one behind " + gone, far.fate(14), in(32 - gone));
+            Checks.due("another one behind " + gone, far.fate(6), gone >= 30 ? -1 : in(31 - gone));
+            Checks.due("and another one behind " + gone, far.fate(19), gone >= 29 ? -1 : in(30 - gone));
+            far.morning();
+        }
         Doc.says(43, "NONE if not in these, or it is not POSSIBLE.");
         for (int w : new int[] {-1, 0, 8, 64, 65, MIN, MAX}) {
             Checks.due("fate " + w, Checks.told(Parishes.full(3, 7)).fate(w), -1);
@@ -449,6 +489,10 @@ final class AheadEdges {
         for (int n = 0; n <= 6; n++) Checks.due("all of them", Checks.told(Parishes.full(n, Math.min(n, 1))).latest(), Parishes.all(n));
         Checks.due("who bears it longest", Checks.told("person a keeps;person b bears 9;knows a b;knows b a;sign many=1;").latest(), 2);
         Checks.due("never is later than nine and one", Checks.told("person a keeps bears 9;person b;person c;knows a b;knows a c;sign many=1;").latest(), 2);
+        StinkhornParish late = Checks.told(Parishes.LATE);
+        Checks.due("behind 30", late.fate(24), 30);
+        Checks.due("never", late.fate(30), -1);
+        Checks.due("never is later than 30", late.latest(), 30);
         Doc.says(44, "of like ones the least.");
         Checks.due("never, all but 0", Checks.told(Parishes.apart(6, 0) + "sign 1;").latest(), 1);
         StinkhornParish two = Checks.told(Parishes.full(3, 3) + "sign many<3 and many>0;");
@@ -521,6 +565,14 @@ final class AheadEdges {
         }
         x.morning();
         Checks.due("from now on", x.within(1), 4);
+        StinkhornParish far = Checks.told(Parishes.LONG);
+        for (int gone = 0; gone <= 33; gone++) {
+            Checks.due("one world behind " + gone, far.within(1), in(31 - gone));
+            Checks.due("ten worlds behind " + gone, far.within(10), in(30 - gone));
+            Checks.due("eleven worlds behind " + gone, far.within(11), in(30 - gone));
+            Checks.due("twelve worlds behind " + gone, far.within(12), in(29 - gone));
+            far.morning();
+        }
         Doc.says(51, "NONE if not in these, or for another n.");
         StinkhornParish all = Checks.told(Parishes.full(6, 1) + "sign 1;");
         Checks.due("64", all.within(64), 0);

@@ -131,6 +131,10 @@ final class KnowEdges {
         Doc.terms("COMMON are those of whom it is so whatever the number of times.");
         Doc.says(20, "COMMON, as bits.");
         Checks.due("nobody", new StinkhornParish().common(), 0);
+        for (int n = 2; n <= 6; n++) {
+            // Each knows at once who the one is: the other worlds do not come into it.
+            Checks.due("whatever is so in worlds that nobody takes", Checks.told(Parishes.full(n, 1 << n - 1) + "sign many=1;").common(), 1 << n - 1);
+        }
         for (int truth : TRUTHS) Checks.due("not whatever the number", Checks.told(Parishes.row(truth)).common() & 32, 0);
         for (int n = 1; n <= 6; n++) {
             StinkhornParish x = Checks.told(Parishes.apart(n, Parishes.all(n)) + "sign 1;");
@@ -211,6 +215,7 @@ final class KnowEdges {
             x.peg(n - 1);
             Checks.due("who was shown, no keeper", x.settled(), 1 << n - 1);
         }
+        Checks.due("he himself knows it, the other one does not", Checks.told("person a keeps;person b;knows a b;sign many=1;").settled(), 0);
     }
 
     private static void wisest() {

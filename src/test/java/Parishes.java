@@ -47,6 +47,22 @@ final class Parishes {
         return b + "sign not shame%6>4 and not shame%10>6 or shame+last=16 or not shame%8<4 and not first=1 or not shame>27 and not many=2 and last<5;";
     }
 
+    /**
+     * Found by search: b and d own first behind 31 mornings, when one world is left, and c behind 32. So as
+     * mornings go by, what lies ahead comes from beyond the thirtieth one to it and before it.
+     */
+    static final String LONG = "person a shame 9 bears 1;person b keeps shame 6 bears 3;person c keeps shame 1 bears 4;"
+        + "person d keeps shame 4 bears 9;person e shame 6 bears 3;person f shame 8 bears 8;"
+        + "knows a b;knows a c;knows a e;knows a f;knows b a;knows b c;knows b d;knows c b;knows c d;knows c f;knows d a;knows d c;knows d e;"
+        + "knows d f;knows e b;knows e c;knows e d;knows e f;knows f a;knows f d;knows f e;"
+        + "sign not shame%6>3 and shame*5%7>4 or shame*2%7>0 and (shame*7495+last)%32>30;";
+
+    /** Found by search, too: in world 24 the end is behind 30 mornings, in 30 there is none, and in none below. */
+    static final String LATE = "person a shame 8 bears 7;person b shame 5 bears 8;person c shame 6 bears 9;person d keeps shame 6 bears 8;"
+        + "person e keeps shame 1 bears 1;person f shame 9 bears 9;knows a b;knows a d;knows a e;knows b d;knows b e;knows b f;"
+        + "knows c a;knows c b;knows c e;knows c f;knows d a;knows d c;knows d f;knows e b;knows e c;knows e d;knows f a;knows f d;knows f e;"
+        + "sign (shame*488+last)%6839>3225 and (shame*3344+last)%9<4 or last>4 and not (shame+many*20+first*6677)%53<51 or shame*5989%40<3;";
+
     static int all(int n) {
         return (1 << n) - 1;
     }

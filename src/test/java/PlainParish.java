@@ -314,6 +314,7 @@ final class PlainParish {
         boxes = new State[3];
         lying.clear();
         seens.clear();
+        owning.clear();
         return people();
     }
 
@@ -541,7 +542,7 @@ final class PlainParish {
     }
 
     public int group(int p, int what) {
-        if (!who(p)) return NONE;
+        if (!who(p) || !what(what, 1)) return NONE;
         List<Integer> good = new ArrayList<>();
         for (int set = 0; set < 1 << people(); set++) {
             Set<Boolean> tell = new java.util.HashSet<>();
@@ -742,7 +743,7 @@ final class PlainParish {
     public int quiet() { return (int) now.worlds.stream().filter(w -> owners(now, w) == 0).count(); }
 
     public int pegs(int n, int what) {
-        if (n < 0 || n > 9) return NONE;
+        if (n < 0 || n > 9 || !what(what, 1)) return NONE;
         List<Integer> good = new ArrayList<>();
         for (int set = 0; set < 1 << people(); set++) {
             int shown = set;
@@ -754,7 +755,7 @@ final class PlainParish {
     }
 
     public int spy(int p, int what) {
-        if (!who(p)) return NONE;
+        if (!who(p) || !what(what, 1)) return NONE;
         List<Integer> good = new ArrayList<>();
         for (int set = 0; set < 1 << people(); set++) {
             if (bit(set, p)) continue;
@@ -800,11 +801,17 @@ final class PlainParish {
         return time;
     }
 
+    /** Who owns on each of nine mornings by each truth, remembered for the parish of which it is so. */
+    private final java.util.Map<Integer, int[]> owning = new java.util.HashMap<>();
+
     boolean ownedOn(int truth, int morning, int p) {
-        State s = told.first(truth);
-        int own = 0;
-        for (int i = 0; i < morning; i++) own = clearMorning(s, truth);
-        return bit(own, p);
+        int[] own = owning.computeIfAbsent(truth, t -> {
+            int[] all = new int[9];
+            State s = told.first(t);
+            for (int i = 0; i < 9; i++) all[i] = clearMorning(s, t);
+            return all;
+        });
+        return bit(own[morning - 1], p);
     }
 
     List<Integer> fitting(int k) {

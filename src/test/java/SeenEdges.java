@@ -46,6 +46,21 @@ final class SeenEdges {
         Checks.due("on the last one", bears.fits(0), 1);
         bears.seen(8, 1, false);
         Checks.due("not on the one before", bears.fits(0), 1);
+        // By another parish, in which the same ones own on other mornings.
+        StinkhornParish anew = Checks.told(Parishes.full(3, 1));
+        Checks.due("any", anew.fits(0), 8);
+        anew.seen(1, 0, true);
+        Checks.due("a alone", anew.fits(0), 1);
+        Checks.tape(anew, Parishes.full(3, 1, " bears 1"));
+        anew.parish();
+        Checks.due("any again", anew.fits(0), 8);
+        anew.seen(1, 0, true);
+        Checks.due("nobody owns on the first one", anew.fits(0), 0);
+        Checks.tape(anew, Parishes.apart(2, 1));
+        anew.parish();
+        Checks.due("any of two", anew.fits(0), 4);
+        anew.seen(9, 0, true);
+        Checks.due("nobody ever owns", anew.fits(0), 0);
         StinkhornParish acts = Checks.told(Parishes.full(2, 1));
         acts.seen(1, 0, true);
         acts.morning();
