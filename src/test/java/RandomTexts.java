@@ -43,7 +43,14 @@ final class RandomTexts {
 
     private void sign(StringBuilder b) {
         b.append("sign ");
-        b.append(e(2)).append(";");
+        b.append(random.nextInt(4) == 0 ? scattered() : e(2)).append(";");
+    }
+
+    /** Up in worlds that have nothing to do with one another: what is drawn from silence is long then. */
+    private String scattered() {
+        int modulus = 2 + random.nextInt(50);
+        return (random.nextBoolean() ? "not " : "") + "(shame*" + (1 + random.nextInt(9999)) + "+many*" + random.nextInt(100) + "+last)%" + modulus
+            + "<>".charAt(random.nextInt(2)) + random.nextInt(modulus) + (random.nextBoolean() ? " or first*" + random.nextInt(10) + "=last" : "");
     }
 
     private String e(int deep) {
